@@ -156,6 +156,9 @@ public final class KinNumbers {
     }
 
     public long diverse(int part) {
+        if (!Fraction.isPart(part)) {
+            return NONE;
+        }
         long living = 0;
         long sum = 0;
         for (int a = 0; a < count; a++) {
@@ -164,10 +167,7 @@ public final class KinNumbers {
                 sum += kinWithLiving(a);
             }
         }
-        if (living == 0 || !Fraction.isPart(part)) {
-            return NONE;
-        }
-        return Fraction.lowest(sum, living * living * Fraction.WHOLE, part);
+        return living == 0 ? NONE : Fraction.lowest(sum, living * living * Fraction.WHOLE, part);
     }
 
     public int animal(int animal, int what) {
@@ -290,10 +290,10 @@ public final class KinNumbers {
         private final int[] mothers = new int[MOST_ANIMALS];
         private final int[] fathers = new int[MOST_ANIMALS];
         private final int[] steps = new int[MOST_ANIMALS];
-        private final int[] inOrder = new int[MOST_ANIMALS];
+        private final int[] sequence = new int[MOST_ANIMALS];
         /** Of each animal a set of bits, one for each of its forbears. */
         private final int[] forbears = new int[MOST_ANIMALS];
-        private final long[] kin = new long[MOST_ANIMALS * MOST_ANIMALS];
+        private final long[] kinTable = new long[MOST_ANIMALS * MOST_ANIMALS];
         private final long[] shares = new long[MOST_ANIMALS];
         /** All animals can stand in a ring, and the child stands there twice. */
         private final int[] ringRows = new int[MOST_ANIMALS + 1];
@@ -320,7 +320,7 @@ public final class KinNumbers {
         }
 
         int inOrder(int k) {
-            return has(k) ? inOrder[k] : NONE;
+            return has(k) ? sequence[k] : NONE;
         }
 
         boolean isFounder(int animal) {
@@ -333,7 +333,7 @@ public final class KinNumbers {
 
         /** Unknown ones (NONE) are kin to none. */
         long kinOf(int a, int b) {
-            return has(a) && has(b) ? kin[a * MOST_ANIMALS + b] : 0;
+            return has(a) && has(b) ? kinTable[a * MOST_ANIMALS + b] : 0;
         }
 
         long inbreedingOf(int animal) {
@@ -445,7 +445,7 @@ public final class KinNumbers {
             for (int step = 0; step < count; step++) {
                 for (int animal = 0; animal < count; animal++) {
                     if (steps[animal] == step && k < count) {
-                        inOrder[k] = animal;
+                        sequence[k] = animal;
                         k++;
                     }
                 }
@@ -479,8 +479,8 @@ public final class KinNumbers {
 
         private void setKin(int a, int b, long parts) {
             if (has(a) && has(b)) {
-                kin[a * MOST_ANIMALS + b] = parts;
-                kin[b * MOST_ANIMALS + a] = parts;
+                kinTable[a * MOST_ANIMALS + b] = parts;
+                kinTable[b * MOST_ANIMALS + a] = parts;
             }
         }
     }

@@ -141,6 +141,11 @@ public final class FractionsTest {
         CHECK.rows("lost, whose heir has other parents", x::lost, 0, 1, 6);
         x.lives(1, true);
         CHECK.rows("lost, one lives", x::lost, 0, 6);
+        x.parents(2, NONE, NONE);
+        x.parents(3, NONE, NONE);
+        x.parents(0, NONE, 3);
+        x.lives(0, true);
+        CHECK.rows("lost, with a living heir of lesser number", x::lost, 2, 6);
     }
 
     /** The rows of promise6Kin's table for 0 to 5 add up to 189 sixteenths, that of 6 to 8. */

@@ -202,6 +202,10 @@ public final class PedigreeTest {
         CHECK.due("mother here and father there: not female", x.told(0, 1, 10), false);
         CHECK.due("mother here and father there: not male", x.told(0, 2, 10), false);
         CHECK.due("mother here and father there: unknown", x.told(0, 0, 9), true);
+        x.parents(0, NONE, 5);
+        CHECK.due("a father of the first animal is not female", x.told(5, 1, NONE), false);
+        CHECK.due("a father of the first animal is born before it", x.told(5, 2, 9), false);
+        CHECK.due("a father of the first animal", x.told(5, 2, 8), true);
     }
 
     private static void promise5Lives() {
