@@ -1,13 +1,21 @@
 /** Counts the answers of one test, prints those that are not due, and ends it with its exit code. */
 final class Check {
+    private static final int MOST_ROWS = 25;
+
     private int asked = 0;
     private int wrong = 0;
+    private String sentence = "";
+
+    /** The document's sentence that the answers from here on are held against. */
+    void sentence(String words) {
+        sentence = "\"" + words + "\": ";
+    }
 
     void due(String call, long got, long want) {
         asked++;
         if (got != want) {
             wrong++;
-            System.out.println(call + " answered " + got + ", due is " + want);
+            System.out.println(sentence + call + " answered " + got + ", due is " + want);
         }
     }
 
@@ -15,7 +23,7 @@ final class Check {
         due(call, got ? 1 : 0, want ? 1 : 0);
     }
 
-    /** Rows 0, 1, 2 .. of ring, order or lost, from the first on and with NONE on both sides. */
+    /** Rows 0, 1, 2 .. of ring, order or lost, with NONE on both sides; the longest, a ring, has 25. */
     void rows(String call, java.util.function.IntUnaryOperator rows, int... want) {
         due(call + "(-1)", rows.applyAsInt(-1), KinNumbers.NONE);
         due(call + "(least)", rows.applyAsInt(Integer.MIN_VALUE), KinNumbers.NONE);
@@ -23,7 +31,7 @@ final class Check {
         for (int k = 0; k < want.length; k++) {
             due(call + "(" + k + ")", rows.applyAsInt(k), want[k]);
         }
-        for (int k = want.length; k < want.length + 30; k++) {
+        for (int k = want.length; k < MOST_ROWS + 2; k++) {
             due(call + "(" + k + ")", rows.applyAsInt(k), KinNumbers.NONE);
         }
     }

@@ -18,8 +18,8 @@ public final class FractionsTest {
     }
 
     /** 0 and 1 have 2 and 3, these have 4, 4 and 2 have 5; 6 stands alone. */
-    private static KinNumbers family() {
-        KinNumbers x = new KinNumbers(7);
+    private static Asked family() {
+        Asked x = new Asked(7);
         x.parents(2, 0, 1);
         x.parents(3, 0, 1);
         x.parents(4, 2, 3);
@@ -28,7 +28,6 @@ public final class FractionsTest {
     }
 
     private static void promise6Kin() {
-        KinNumbers x = family();
         int[][] sixteenths = {
             {8, 0, 4, 4, 4, 4, 0},
             {0, 8, 4, 4, 4, 4, 0},
@@ -38,6 +37,7 @@ public final class FractionsTest {
             {4, 4, 7, 5, 8, 11, 0},
             {0, 0, 0, 0, 0, 0, 8}};
         for (int a = 0; a < 7; a++) {
+            Asked x = family();
             for (int b = 0; b < 7; b++) {
                 checkKin(x, a, b, sixteenths[a][b], 16);
             }
@@ -45,7 +45,7 @@ public final class FractionsTest {
     }
 
     private static void promise6HalfKnown() {
-        KinNumbers x = new KinNumbers(4);
+        Asked x = new Asked(4);
         x.parents(1, 0, NONE);
         x.parents(2, NONE, 1);
         x.parents(3, 2, 0);
@@ -61,7 +61,7 @@ public final class FractionsTest {
 
     /** Numbers run against the generations here: the one that is no forbear has the lesser number. */
     private static void promise6GreaterNumberFirst() {
-        KinNumbers x = new KinNumbers(5);
+        Asked x = new Asked(5);
         x.parents(2, 4, 3);
         x.parents(1, 4, 3);
         x.parents(0, 2, 1);
@@ -73,7 +73,7 @@ public final class FractionsTest {
     }
 
     private static void promise7Inbred() {
-        KinNumbers x = family();
+        Asked x = family();
         long[][] want = {{0, 1}, {0, 1}, {0, 1}, {0, 1}, {1, 4}, {3, 8}, {0, 1}};
         for (int k = 0; k < want.length; k++) {
             int animal = k;
@@ -84,7 +84,7 @@ public final class FractionsTest {
     }
 
     private static void promise8Chance() {
-        KinNumbers x = family();
+        Asked x = family();
         CHECK.fraction("chance without parents", part -> x.chance(0, part), 1, 1);
         CHECK.fraction("chance of parents not inbred", part -> x.chance(4, part), 1, 2);
         CHECK.fraction("chance of an inbred mother", part -> x.chance(5, part), 7, 16);
@@ -99,7 +99,7 @@ public final class FractionsTest {
     }
 
     private static void promise9Share() {
-        KinNumbers x = family();
+        Asked x = family();
         checkShare(x, 0, 0, 1, 1);
         checkShare(x, 0, 1, 0, 1);
         checkShare(x, 5, 0, 1, 2);
@@ -123,7 +123,7 @@ public final class FractionsTest {
     }
 
     private static void promise16Lost() {
-        KinNumbers x = family();
+        Asked x = family();
         CHECK.rows("lost, all live", x::lost);
         x.lives(0, false);
         x.lives(6, false);
@@ -150,7 +150,7 @@ public final class FractionsTest {
 
     /** The rows of promise6Kin's table for 0 to 5 add up to 189 sixteenths, that of 6 to 8. */
     private static void promise17Diverse() {
-        KinNumbers x = family();
+        Asked x = family();
         x.lives(6, false);
         CHECK.fraction("diverse of six", x::diverse, 21, 64);
         x.parents(1, NONE, NONE);
@@ -169,7 +169,7 @@ public final class FractionsTest {
     }
 
     private static void wrongInputs() {
-        KinNumbers x = family();
+        Asked x = family();
         for (int other : NO_SUCH) {
             CHECK.noFraction("kin(" + other + ", 0)", part -> x.kin(other, 0, part));
             CHECK.noFraction("kin(0, " + other + ")", part -> x.kin(0, other, part));
@@ -181,13 +181,13 @@ public final class FractionsTest {
         }
     }
 
-    private static void checkKin(KinNumbers x, int a, int b, long above, long below) {
+    private static void checkKin(Asked x, int a, int b, long above, long below) {
         long divisor = greatestDivisor(above, below);
         CHECK.fraction("kin(" + a + ", " + b + ")", part -> x.kin(a, b, part), above / divisor, below / divisor);
         CHECK.fraction("kin(" + b + ", " + a + ")", part -> x.kin(b, a, part), above / divisor, below / divisor);
     }
 
-    private static void checkShare(KinNumbers x, int animal, int founder, long above, long below) {
+    private static void checkShare(Asked x, int animal, int founder, long above, long below) {
         CHECK.fraction("share(" + animal + ", " + founder + ")", part -> x.share(animal, founder, part), above, below);
     }
 

@@ -16,7 +16,7 @@ public final class MarksTest {
     }
 
     private static void promise12Mark() {
-        KinNumbers x = new KinNumbers(5);
+        Asked x = new Asked(5);
         for (int mark = 0; mark < 4; mark++) {
             for (int form = NONE; form <= 2; form++) {
                 CHECK.due("mark(4, " + mark + ", " + form + ")", x.mark(4, mark, form), true);
@@ -40,7 +40,7 @@ public final class MarksTest {
     }
 
     private static void promise13Left() {
-        KinNumbers x = new KinNumbers(5);
+        Asked x = new Asked(5);
         CHECK.due("left without forms", x.left(0, 1), 4);
         x.mark(0, 3, 0);
         x.mark(1, 3, 2);
@@ -62,12 +62,12 @@ public final class MarksTest {
         CHECK.due("left for 0, by another mark", x.left(0, 1), 1);
         x.mark(0, 0, 1);
         CHECK.due("left for 0, form 1 leaves none out", x.left(0, 1), 2);
-        KinNumbers one = new KinNumbers(1);
+        Asked one = new Asked(1);
         CHECK.due("left for one alone", one.left(0, 1), 0);
     }
 
     private static void promise13NoPedigreeAsked() {
-        KinNumbers x = new KinNumbers(4);
+        Asked x = new Asked(4);
         x.parents(1, 0, NONE);
         x.parents(2, 1, NONE);
         x.told(0, 0, 5);
@@ -79,7 +79,7 @@ public final class MarksTest {
 
     /** Seven letters A and three letters B of mark 0; forms 0, 1, 2, 0 of animals 0 to 3, and 0 of 4. */
     private static void promise14Odds() {
-        KinNumbers x = new KinNumbers(5);
+        Asked x = new Asked(5);
         checkOdds(x, 0, 1, 1, 1);
         int[] forms = {0, 1, 2, 0, 0};
         for (int animal = 0; animal < 5; animal++) {
@@ -102,7 +102,7 @@ public final class MarksTest {
         checkOdds(x, 2, 3, 8, 5);
         checkOdds(x, 4, 3, 1, 1);
         checkOdds(x, 3, 4, 1, 1);
-        KinNumbers same = new KinNumbers(2);
+        Asked same = new Asked(2);
         same.mark(0, 1, 2);
         same.mark(1, 1, 2);
         checkOdds(same, 0, 1, 1, 1);
@@ -112,7 +112,7 @@ public final class MarksTest {
     }
 
     private static void promise14OddsOfManyMarks() {
-        KinNumbers x = new KinNumbers(24);
+        Asked x = new Asked(24);
         for (int mark = 0; mark < 4; mark++) {
             for (int animal = 0; animal < 24; animal++) {
                 x.mark(animal, mark, 0);
@@ -134,7 +134,7 @@ public final class MarksTest {
     }
 
     private static void promise15Like() {
-        KinNumbers x = new KinNumbers(5);
+        Asked x = new Asked(5);
         CHECK.noFraction("like without forms", part -> x.like(0, 1, part));
         CHECK.noFraction("like of one without forms", part -> x.like(0, 0, part));
         x.mark(0, 0, 0);
@@ -156,7 +156,7 @@ public final class MarksTest {
     }
 
     private static void wrongInputs() {
-        KinNumbers x = new KinNumbers(5);
+        Asked x = new Asked(5);
         for (int animal = 0; animal < 5; animal++) {
             x.mark(animal, 0, 1);
             int one = animal;
@@ -175,11 +175,11 @@ public final class MarksTest {
         }
     }
 
-    private static void checkOdds(KinNumbers x, int child, int parent, long above, long below) {
+    private static void checkOdds(Asked x, int child, int parent, long above, long below) {
         CHECK.fraction("odds(" + child + ", " + parent + ")", part -> x.odds(child, parent, part), above, below);
     }
 
-    private static void checkLike(KinNumbers x, int a, int b, long above, long below) {
+    private static void checkLike(Asked x, int a, int b, long above, long below) {
         CHECK.fraction("like(" + a + ", " + b + ")", part -> x.like(a, b, part), above, below);
         CHECK.fraction("like(" + b + ", " + a + ")", part -> x.like(b, a, part), above, below);
     }

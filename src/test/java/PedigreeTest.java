@@ -10,6 +10,7 @@ public final class PedigreeTest {
         promise2Refusals();
         promise2SexesAndDays();
         promise3Ring();
+        promise3RingForgotten();
         promise3LongestRing();
         promise3RingBeforeSexesAndDays();
         promise4Told();
@@ -26,7 +27,7 @@ public final class PedigreeTest {
         int[][] askedAndMade = {
             {Integer.MIN_VALUE, 1}, {-1, 1}, {0, 1}, {1, 1}, {2, 2}, {23, 23}, {24, 24}, {25, 24}, {Integer.MAX_VALUE, 24}};
         for (int[] row : askedAndMade) {
-            KinNumbers x = new KinNumbers(row[0]);
+            Asked x = new Asked(row[0]);
             CHECK.due("last of " + row[0], x.order(row[1] - 1), row[1] - 1);
             CHECK.due("beyond " + row[0], x.order(row[1]), NONE);
             CHECK.due("lives, last of " + row[0], x.lives(row[1] - 1, true), true);
@@ -38,7 +39,7 @@ public final class PedigreeTest {
     }
 
     private static void promise2Parents() {
-        KinNumbers x = new KinNumbers(6);
+        Asked x = new Asked(6);
         CHECK.due("both known", x.parents(2, 0, 1), true);
         checkAnimal(x, 2, 0, 1, 0, NONE, 1, 1);
         CHECK.due("in place of those it had", x.parents(2, 4, 3), true);
@@ -54,7 +55,7 @@ public final class PedigreeTest {
     }
 
     private static void promise2Refusals() {
-        KinNumbers x = new KinNumbers(6);
+        Asked x = new Asked(6);
         for (int other : NO_SUCH) {
             CHECK.due("child " + other, x.parents(other, 0, 1), false);
             CHECK.due("child " + other + " of none", x.parents(other, NONE, NONE), false);
@@ -73,7 +74,7 @@ public final class PedigreeTest {
     }
 
     private static void promise2SexesAndDays() {
-        KinNumbers x = new KinNumbers(6);
+        Asked x = new Asked(6);
         x.told(0, 1, 10);
         x.told(1, 2, 20);
         x.told(2, 0, 20);
@@ -91,7 +92,7 @@ public final class PedigreeTest {
     }
 
     private static void promise3Ring() {
-        KinNumbers x = new KinNumbers(8);
+        Asked x = new Asked(8);
         CHECK.rows("ring at first", x::ring);
         x.parents(2, 0, 1);
         CHECK.rows("ring after what is right", x::ring);
@@ -118,12 +119,14 @@ public final class PedigreeTest {
         x.mark(5, 0, 1);
         CHECK.due("told() of none such", x.told(9, 1, 3), false);
         CHECK.rows("ring is kept by other calls", x::ring, 1, 3, 2, 1);
-        checkForgotten(x);
     }
 
-    private static void checkForgotten(KinNumbers x) {
+    private static void promise3RingForgotten() {
         int[][] others = {{9, 0, 1}, {2, 9, 1}, {2, 0, 9}, {2, 6, 6}, {0, 0, 0}, {6, NONE, 5}, {7, 6, NONE}, {7, NONE, NONE}};
         for (int[] row : others) {
+            Asked x = new Asked(8);
+            x.told(5, 1, 3);
+            x.parents(2, 0, 1);
             x.parents(1, 2, NONE);
             CHECK.rows("ring", x::ring, 1, 2, 1);
             x.parents(row[0], row[1], row[2]);
@@ -132,7 +135,7 @@ public final class PedigreeTest {
     }
 
     private static void promise3LongestRing() {
-        KinNumbers x = new KinNumbers(24);
+        Asked x = new Asked(24);
         int[] want = new int[25];
         for (int child = 1; child < 24; child++) {
             CHECK.due("line", child % 2 == 0 ? x.parents(child, child - 1, NONE) : x.parents(child, NONE, child - 1), true);
@@ -143,7 +146,7 @@ public final class PedigreeTest {
     }
 
     private static void promise3RingBeforeSexesAndDays() {
-        KinNumbers x = new KinNumbers(4);
+        Asked x = new Asked(4);
         x.told(0, 1, 5);
         x.told(1, 2, 9);
         x.parents(1, 0, NONE);
@@ -158,7 +161,7 @@ public final class PedigreeTest {
     }
 
     private static void promise4Told() {
-        KinNumbers x = new KinNumbers(6);
+        Asked x = new Asked(6);
         CHECK.due("first day", x.told(1, 1, 0), true);
         checkAnimal(x, 1, NONE, NONE, 1, 0, 1, 0);
         CHECK.due("last day", x.told(1, 2, 99999), true);
@@ -178,7 +181,7 @@ public final class PedigreeTest {
     }
 
     private static void promise4ToldAgainstParentsAndChildren() {
-        KinNumbers x = new KinNumbers(6);
+        Asked x = new Asked(6);
         x.parents(2, 0, 1);
         x.parents(3, 2, NONE);
         CHECK.due("a mother is not male", x.told(0, 2, NONE), false);
@@ -209,7 +212,7 @@ public final class PedigreeTest {
     }
 
     private static void promise5Lives() {
-        KinNumbers x = new KinNumbers(6);
+        Asked x = new Asked(6);
         CHECK.due("dies", x.lives(3, false), true);
         CHECK.due("is dead", x.animal(3, 4), 0);
         CHECK.due("others live", x.animal(2, 4), 1);
@@ -224,7 +227,7 @@ public final class PedigreeTest {
     }
 
     private static void promise10IsForbear() {
-        KinNumbers x = new KinNumbers(6);
+        Asked x = new Asked(6);
         x.parents(2, 0, 1);
         x.parents(3, NONE, 2);
         x.parents(4, 3, NONE);
@@ -238,7 +241,7 @@ public final class PedigreeTest {
         }
     }
 
-    private static void checkForbears(KinNumbers x, int[][] forbears) {
+    private static void checkForbears(Asked x, int[][] forbears) {
         for (int of = 0; of < forbears.length; of++) {
             for (int a = 0; a < forbears.length; a++) {
                 boolean want = false;
@@ -251,7 +254,7 @@ public final class PedigreeTest {
     }
 
     private static void promise11Order() {
-        KinNumbers x = new KinNumbers(6);
+        Asked x = new Asked(6);
         CHECK.rows("order", x::order, 0, 1, 2, 3, 4, 5);
         x.parents(0, 5, NONE);
         x.parents(3, 0, 4);
@@ -263,7 +266,7 @@ public final class PedigreeTest {
         CHECK.due("fewer steps", x.animal(1, 5), 2);
         x.parents(1, NONE, NONE);
         CHECK.rows("order after none", x::order, 1, 2, 4, 5, 0, 3);
-        KinNumbers line = new KinNumbers(24);
+        Asked line = new Asked(24);
         int[] want = new int[24];
         for (int k = 0; k < 24; k++) {
             want[k] = 23 - k;
@@ -274,7 +277,7 @@ public final class PedigreeTest {
     }
 
     private static void promise18Animal() {
-        KinNumbers x = new KinNumbers(6);
+        Asked x = new Asked(6);
         x.parents(3, 0, 1);
         x.parents(4, 2, 3);
         x.told(4, 2, 77);
@@ -291,7 +294,7 @@ public final class PedigreeTest {
     }
 
     private static void refusalsChangeNothing() {
-        KinNumbers x = new KinNumbers(4);
+        Asked x = new Asked(4);
         x.parents(2, 0, 1);
         x.parents(3, 2, 1);
         x.told(2, 1, 50);
@@ -306,7 +309,7 @@ public final class PedigreeTest {
     }
 
     /** Mother, father, sex, day, lives and steps; NONE for what is asked besides. */
-    private static void checkAnimal(KinNumbers x, int animal, int... want) {
+    private static void checkAnimal(Asked x, int animal, int... want) {
         for (int what = 0; what < want.length; what++) {
             CHECK.due("animal(" + animal + ", " + what + ")", x.animal(animal, what), want[what]);
         }
