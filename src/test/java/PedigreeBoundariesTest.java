@@ -406,6 +406,7 @@ public final class PedigreeBoundariesTest {
         noneSuchOrOthers();
         toldAgainstSexes();
         toldAgainstDays();
+        toldOfTheFirstAndTheLast();
         toldWholeOrNotAtAll();
     }
 
@@ -480,6 +481,25 @@ public final class PedigreeBoundariesTest {
             CHECK.due("its parent a day before the last", x.told(1, 0, LAST_DAY - 1), true);
             CHECK.due("unknown between the two", x.told(1, 0, NONE), true);
             CHECK.due("then these are not asked of each other", x.told(0, 0, LAST_DAY), true);
+        }
+    }
+
+    private static void toldOfTheFirstAndTheLast() {
+        CHECK.sentence("or the pedigree would not be right. (of the first animal and the last one)");
+        for (int child : new int[] {0, 23}) {
+            int parent = 23 - child;
+            Asked x = new Asked(24);
+            x.parents(child, parent, NONE);
+            x.told(parent, FEMALE, 10);
+            CHECK.due("child " + child + " on the day", x.told(child, 0, 10), false);
+            CHECK.due("child " + child + " a day after", x.told(child, 0, 11), true);
+            CHECK.due("mother " + parent + " as male", x.told(parent, MALE, 10), false);
+            CHECK.due("mother " + parent + " on the day", x.told(parent, FEMALE, 11), false);
+            x.parents(child, NONE, NONE);
+            x.told(parent, MALE, 10);
+            x.parents(child, NONE, parent);
+            CHECK.due("father " + parent + " as female", x.told(parent, FEMALE, 10), false);
+            CHECK.due("father " + parent + " on the day", x.told(parent, MALE, 11), false);
         }
     }
 
