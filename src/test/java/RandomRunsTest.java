@@ -3,25 +3,22 @@ import java.util.Random;
 /** Runs of calls by a fixed seed, each answer held against the document's words in PlainKin. */
 public final class RandomRunsTest {
     private static final int RUNS = 2500;
-    /** An object is promised to answer so many calls and no more. */
-    private static final int CALLS = 512;
     private static final int RING_ROWS = 27;
     private static final int[] ODD = {-3, -2, -1, 24, 25, 99999, 100000, Integer.MIN_VALUE, Integer.MAX_VALUE};
 
     private final Check check;
     private final Random random;
-    private final KinNumbers x;
+    private final Asked x;
     private final PlainKin plain;
     /** How seldom an argument is one that the document refuses. */
     private final int seldom;
-    private int calls = 0;
 
     private RandomRunsTest(Check check, long seed) {
         this.check = check;
         random = new Random(seed);
         seldom = 3 + random.nextInt(60);
         int animals = random.nextInt(4) == 0 ? random.nextInt(40) - 5 : 2 + random.nextInt(12);
-        x = new KinNumbers(animals);
+        x = new Asked(animals);
         plain = new PlainKin(animals);
     }
 
@@ -29,8 +26,8 @@ public final class RandomRunsTest {
         Check check = new Check();
         for (int run = 0; run < RUNS; run++) {
             RandomRunsTest test = new RandomRunsTest(check, run);
-            while (test.calls + 1 + RING_ROWS <= CALLS) {
-                test.call("run " + run + " call " + test.calls + ": ");
+            while (test.x.callsLeft() >= 1 + RING_ROWS) {
+                test.call("run " + run + ", " + test.x.callsLeft() + " calls left: ");
             }
         }
         check.end();
@@ -53,7 +50,6 @@ public final class RandomRunsTest {
     }
 
     private void call(String at) {
-        calls++;
         int kind = random.nextInt(22);
         if (kind < 10) {
             change(at, kind);
@@ -86,7 +82,6 @@ public final class RandomRunsTest {
     /** Now and then every row; often none, as the rows take up the calls. */
     private void askRing(String at) {
         int rows = random.nextInt(8) == 0 ? RING_ROWS : random.nextInt(3);
-        calls += rows;
         for (int k = rows - 2; k >= -1; k--) {
             check.due(at + "ring(" + k + ")", x.ring(k), plain.ring(k));
         }
